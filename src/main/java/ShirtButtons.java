@@ -557,11 +557,11 @@ public final class ShirtButtons {
             return first;
         }
 
+        /** To be followed by a call that brings the button to another place. */
         void leave(int button) {
             at[place[button]]--;
             if (binOf[button] >= 0) {
                 inBin[binOf[button]]--;
-                binOf[button] = NONE;
             }
         }
 

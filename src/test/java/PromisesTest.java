@@ -26,10 +26,12 @@ public final class PromisesTest {
         type();
         clearText();
         undo();
+        undoAll();
         undoDropsOldest();
         notRecorded();
         keep();
         restore();
+        restoreFewer();
         button();
         inBin();
         bin();
@@ -128,6 +130,9 @@ public final class PromisesTest {
         fault("1h31", 3);
         fault("1h40", 3);
         fault("1h99", 3);
+        fault("1h1:", 3);
+        fault("1h9i:", 4);
+        fault("1h9c/", 4);
         fault("1h100", 4);
         fault("1h300", 4);
         fault("1h9 ", 3);
@@ -162,13 +167,20 @@ public final class PromisesTest {
         totals("full", x, 8, 30, 30);
         Check.write(x, "1h1,1h1,1h1,1h1,1h1,1h1,1h1,1h1,1h1,1h1,");
         due("a fault is told before FULL", x.read(), -140);
-        Check.write(x, "1h1,1h1,1h1,1h1,1h1,1h1,1h1,1h1,1h1,1h1");
+        Check.write(x, "1h1,1h1,1h1,1h1,1h1,1h1,1h1,1h1,1h1,1h1i9");
         due("read() of the 40th", x.read(), 10);
         Check.write(x, "1h1");
         due("read() of one more", x.read(), ShirtButtons.FULL);
         due("FULL isn't recorded", x.total(22), 3);
         due("the last button", x.button(39, 7), 39);
         due("no button 40", x.button(40, 7), ShirtButtons.UNKNOWN);
+        due("chips of 40", x.total(21), 0);
+        due("sort(40)", x.sort(40), 40);
+        due("the rank of one in the bin", x.button(0, 7), ShirtButtons.NONE);
+        due("the rank of the last that went back", x.button(38, 7), 28);
+        due("pour(0)", x.pour(0), 10);
+        due("the rank of the last that was poured", x.button(9, 7), 38);
+        due("the last one is on the magnet", x.letGo(), 1);
     }
 
     private static void sortPlaces() {
@@ -184,6 +196,7 @@ public final class PromisesTest {
         due("sort(99)", x.sort(99), 2);
         due("size on the mesh 2", x.button(4, 5), 5);
         due("size above the mesh 2", x.button(5, 5), 4);
+        due("rank of the last one that was taken", x.button(5, 7), ShirtButtons.NONE);
         due("sort is a change", x.total(22), 3);
         totals("sorted", x, 9, 0, 1, 1, 0, 2, 2, 0);
         totals("sorted", x, 18, 6, 0, 1);
@@ -477,6 +490,22 @@ public final class PromisesTest {
         due("sorted how often", x.button(0, 9), 0);
     }
 
+    private static void undoAll() {
+        ShirtButtons x = Check.with("1h9c5s3,1h9s1,1h9s1");
+        x.set(6, 1);
+        x.set(3, 9);
+        x.sort(1);
+        x.sort(1);
+        due("one has gone back", x.total(19), 1);
+        x.polish(0);
+        due("undo the polishing", x.undo(), 3);
+        due("its shine", x.button(0, 4), 3);
+        due("its chips", x.button(0, 3), 5);
+        due("undo the going back", x.undo(), 2);
+        due("none has gone back", x.total(19), 0);
+        hopperIs("as before", x, 1, 2);
+    }
+
     private static void undoDropsOldest() {
         ShirtButtons x = new ShirtButtons();
         for (int value = 3; value <= 8; value++) {
@@ -548,6 +577,21 @@ public final class PromisesTest {
         x.sort(1);
         due("restore() twice", x.restore(), 3);
         hopperIs("the snapshot isn't sorted along", x, 0, 1, 2);
+    }
+
+    private static void restoreFewer() {
+        ShirtButtons x = new ShirtButtons();
+        x.keep();
+        Check.bring(x, "1h9c3,1h9i9c1,1h9c4");
+        x.sort(3);
+        due("restore() of none", x.restore(), 0);
+        due("chips of none", x.total(21), 0);
+        due("none on the magnet", x.letGo(), ShirtButtons.NONE);
+        Check.bring(x, "1h8");
+        due("sorted how often", x.button(0, 9), 0);
+        due("its chips", x.button(0, 3), 0);
+        due("on its way", x.button(0, 5), 0);
+        hopperIs("come anew", x, 0);
     }
 
     private static void button() {
@@ -649,6 +693,7 @@ public final class PromisesTest {
         ShirtButtons x = Check.sorted("1h5s9,1h5s2,1h5s5");
         due("reason(0, 1)", x.reason(0, 1), 0);
         due("reason(0, 2)", x.reason(0, 2), 2);
+        due("reason(0, 3), just so many", x.reason(0, 3), 2);
         due("reason(0, 4)", x.reason(0, 4), 1);
         due("reason(1, 1)", x.reason(1, 1), 1);
         x.set(7, 3);
