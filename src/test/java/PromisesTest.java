@@ -49,30 +49,9 @@ public final class PromisesTest {
         check.due(what, got, want);
     }
 
-    /** What total answers for 0, 1, 2 and so on. */
-    private static void totals(String what, ShirtButtons x, int from, int... wants) {
-        for (int i = 0; i < wants.length; i++) {
-            due(what + ": total(" + (from + i) + ")", x.total(from + i), wants[i]);
-        }
-    }
-
-    private static void binIs(String what, ShirtButtons x, int bin, int... wants) {
-        for (int i = 0; i < wants.length; i++) {
-            due(what + ": inBin(" + bin + ", " + i + ")", x.inBin(bin, i), wants[i]);
-        }
-        due(what + ": inBin behind the last", x.inBin(bin, wants.length), ShirtButtons.NONE);
-    }
-
-    private static void hopperIs(String what, ShirtButtons x, int... wants) {
-        due(what + ": hopper", x.total(9), wants.length);
-        for (int i = 0; i < wants.length; i++) {
-            due(what + ": rank of " + wants[i], x.button(wants[i], 7), i);
-        }
-    }
-
     private static void newObject() {
         ShirtButtons x = new ShirtButtons();
-        totals("new", x, 0, 10, 15, 22, 4, 6, 3, 10, 2, 0, 0, 0, 0, 0, 0, 0, 0, 0, 0, 0, 0, 0, 0, 0, 0);
+        check.totals("new", x, 0, 10, 15, 22, 4, 6, 3, 10, 2, 0, 0, 0, 0, 0, 0, 0, 0, 0, 0, 0, 0, 0, 0, 0, 0);
         for (int bin = 0; bin < 12; bin++) {
             due("new: bin " + bin, x.bin(bin, 0), 0);
         }
@@ -93,10 +72,10 @@ public final class PromisesTest {
             }
             due("read button is in the hopper", x.button(b, 5), 0);
         }
-        hopperIs("read", x, 0, 1, 2, 3);
+        check.hopperIs("read", x, 0, 1, 2, 3);
         due("read() again", x.read(), 4);
         due("those that come go to the end", x.button(4, 7), 4);
-        totals("read twice", x, 8, 8, 8);
+        check.totals("read twice", x, 8, 8, 8);
         due("read is a change", x.total(22), 2);
     }
 
@@ -164,7 +143,7 @@ public final class PromisesTest {
         ShirtButtons x = Check.with(FIFTEEN, FIFTEEN);
         Check.write(x, "1h1,1h1,1h1,1h1,1h1,1h1,1h1,1h1,1h1,1h1,1h1");
         due("read() of the 41st", x.read(), ShirtButtons.FULL);
-        totals("full", x, 8, 30, 30);
+        check.totals("full", x, 8, 30, 30);
         Check.write(x, "1h1,1h1,1h1,1h1,1h1,1h1,1h1,1h1,1h1,1h1,");
         due("a fault is told before FULL", x.read(), -140);
         Check.write(x, "1h1,1h1,1h1,1h1,1h1,1h1,1h1,1h1,1h1,1h1i9");
@@ -190,7 +169,7 @@ public final class PromisesTest {
         for (int b = 0; b < places.length; b++) {
             due("sorted button " + b, x.button(b, 5), places[b]);
         }
-        hopperIs("after sort(4)", x, 4, 5);
+        check.hopperIs("after sort(4)", x, 4, 5);
         due("how often the first was sorted", x.button(0, 9), 1);
         due("how often the last was sorted", x.button(5, 9), 0);
         due("sort(99)", x.sort(99), 2);
@@ -198,8 +177,8 @@ public final class PromisesTest {
         due("size above the mesh 2", x.button(5, 5), 4);
         due("rank of the last one that was taken", x.button(5, 7), ShirtButtons.NONE);
         due("sort is a change", x.total(22), 3);
-        totals("sorted", x, 9, 0, 1, 1, 0, 2, 2, 0);
-        totals("sorted", x, 18, 6, 0, 1);
+        check.totals("sorted", x, 9, 0, 1, 1, 0, 2, 2, 0);
+        check.totals("sorted", x, 18, 6, 0, 1);
     }
 
     private static void sortClasses() {
@@ -223,17 +202,17 @@ public final class PromisesTest {
     private static void sortMagnet() {
         ShirtButtons x = Check.with("1h5i6,1h5i9,1h5i7,1h5i8");
         x.sort(2);
-        totals("two held", x, 9, 2, 0, 2, 0);
+        check.totals("two held", x, 9, 2, 0, 2, 0);
         x.sort(1);
-        totals("three let go", x, 9, 1, 0, 0, 3);
+        check.totals("three let go", x, 9, 1, 0, 0, 3);
         x.sort(1);
-        totals("one held", x, 9, 0, 0, 1, 3);
+        check.totals("one held", x, 9, 0, 0, 1, 3);
         x = Check.with("1h5i6,1h5i6,1h5i6");
         x.sort(2);
         x.set(5, 1);
-        totals("HOLD made less lets nothing go", x, 11, 2, 0);
+        check.totals("HOLD made less lets nothing go", x, 11, 2, 0);
         x.sort(1);
-        totals("the next one lets all go", x, 11, 0, 3);
+        check.totals("the next one lets all go", x, 11, 0, 3);
         x = Check.with("1h5i9,1h5i5");
         x.set(4, 10);
         x.sort(1);
@@ -268,7 +247,7 @@ public final class PromisesTest {
         x.set(6, 1);
         Check.bring(x, "1h9,1h8,1h10,2h9");
         due("sort(3)", x.sort(3), 3);
-        hopperIs("two went back", x, 3, 1, 2);
+        check.hopperIs("two went back", x, 3, 1, 2);
         due("gone back", x.total(19), 2);
         due("rubbed, though it goes back", x.button(2, 3), 1);
         due("it has no bin", x.button(2, 6), ShirtButtons.NONE);
@@ -277,7 +256,7 @@ public final class PromisesTest {
         due("rubbed until it is waste", x.button(2, 5), 1);
         due("its chips then", x.button(2, 3), 5);
         due("rubbed", x.total(20), 5);
-        hopperIs("one is left", x, 1);
+        check.hopperIs("one is left", x, 1);
         due("all sortings", x.total(18), 102);
         due("its sortings", x.button(1, 9) + x.button(2, 9), 100);
         x = new ShirtButtons();
@@ -308,14 +287,14 @@ public final class PromisesTest {
         due("letGo is a change", x.total(22), 3);
         due("letGo() again", x.letGo(), ShirtButtons.NONE);
         due("NONE isn't recorded", x.total(22), 3);
-        totals("let go", x, 9, 0, 0, 0, 2, 0, 1);
+        check.totals("let go", x, 9, 0, 0, 0, 2, 0, 1);
     }
 
     private static void pour() {
         ShirtButtons x = Check.sorted("1h5s9,1h5s1,2h5,1h5s5");
         Check.bring(x, "3h3");
         due("pour(0)", x.pour(0), 3);
-        hopperIs("by the numbers, at the end", x, 4, 0, 1, 3);
+        check.hopperIs("by the numbers, at the end", x, 4, 0, 1, 3);
         due("it is in no bin", x.button(0, 6), ShirtButtons.NONE);
         due("the other bin", x.bin(1, 0), 1);
         due("pour(0) again", x.pour(0), ShirtButtons.NONE);
@@ -330,7 +309,7 @@ public final class PromisesTest {
     private static void shirt() {
         ShirtButtons x = Check.sorted("1h5s9,1h5s0,1h5s4,1h5s6,1h5s3,1h5s6", "2h5s1");
         due("shirt(0, 3)", x.shirt(0, 3), 16);
-        binIs("the first alike ones are gone", x, 0, 1, 4, 0);
+        check.binIs("the first alike ones are gone", x, 0, 1, 4, 0);
         due("on the shirt", x.button(2, 5), 6);
         due("its shirt", x.button(3, 8), 0);
         due("its shirt", x.button(5, 8), 0);
@@ -341,7 +320,7 @@ public final class PromisesTest {
         due("shirt(0, 2)", x.shirt(0, 2), -12);
         due("shirt(0, 4)", x.shirt(0, 4), -11);
         due("shirt(0, 1)", x.shirt(0, 1), 0);
-        totals("shirts", x, 14, 2, 5, 3, 17);
+        check.totals("shirts", x, 14, 2, 5, 3, 17);
         x.set(7, 6);
         due("just SPREAD", x.shirt(0, 2), 12);
     }
@@ -355,7 +334,7 @@ public final class PromisesTest {
         due("worth of all", x.total(17), 1);
         x = Check.sorted("1h5s1,1h5s1,1h5s1,1h5s1,1h5s1,1h5s1,1h5s1,1h5s1,1h5s1");
         due("of like shine the lower number first", x.shirt(0, 2), 2);
-        binIs("left", x, 0, 2, 3, 4, 5, 6, 7, 8);
+        check.binIs("left", x, 0, 2, 3, 4, 5, 6, 7, 8);
         x.undo();
         due("shirt(0, 9)", x.shirt(0, 9), 9);
     }
@@ -394,7 +373,7 @@ public final class PromisesTest {
         }
         x = Check.sorted("1h5s1,1h5s1");
         x.polish(0);
-        binIs("polishing changes the order", x, 0, 1, 0);
+        check.binIs("polishing changes the order", x, 0, 1, 0);
         x.shirt(0, 1);
         due("polish on a shirt", x.polish(1), ShirtButtons.NOT_POSSIBLE);
         due("polish in the bin", x.polish(0), 3);
@@ -439,7 +418,7 @@ public final class PromisesTest {
         due("set(2, 21)", x.set(2, 21), ShirtButtons.NOT_POSSIBLE);
         due("set(2, 30)", x.set(2, 30), 22);
         due("set(3, 0) isn't held by the mesh before", x.set(3, 0), 4);
-        totals("meshes", x, 0, 15, 22, 30, 0);
+        check.totals("meshes", x, 0, 15, 22, 30, 0);
     }
 
     private static void type() {
@@ -475,15 +454,15 @@ public final class PromisesTest {
         due("the setting", x.total(0), 10);
         due("the text stays", x.total(23), 3);
         due("undo the shirt", x.undo(), 2);
-        totals("no shirt", x, 14, 3, 0, 0, 0, 4, 0, 1, 1, 2, 3);
-        binIs("in its bin", x, 0, 0, 3, 2);
+        check.totals("no shirt", x, 14, 3, 0, 0, 0, 4, 0, 1, 1, 2, 3);
+        check.binIs("in its bin", x, 0, 0, 3, 2);
         due("on no shirt", x.button(0, 8), ShirtButtons.NONE);
         due("undo the sorting", x.undo(), 1);
-        hopperIs("all wait", x, 0, 1, 2, 3);
-        totals("not sorted", x, 18, 0, 0, 0, 0, 1);
+        check.hopperIs("all wait", x, 0, 1, 2, 3);
+        check.totals("not sorted", x, 18, 0, 0, 0, 0, 1);
         due("sorted how often", x.button(0, 9), 0);
         due("undo the reading", x.undo(), 0);
-        totals("none came", x, 8, 0, 0);
+        check.totals("none came", x, 8, 0, 0);
         due("no button", x.button(0, 0), ShirtButtons.UNKNOWN);
         due("undo nothing", x.undo(), ShirtButtons.NONE);
         due("it may come again", x.read(), 1);
@@ -503,7 +482,7 @@ public final class PromisesTest {
         due("its chips", x.button(0, 3), 5);
         due("undo the going back", x.undo(), 2);
         due("none has gone back", x.total(19), 0);
-        hopperIs("as before", x, 1, 2);
+        check.hopperIs("as before", x, 1, 2);
     }
 
     private static void undoDropsOldest() {
@@ -566,17 +545,17 @@ public final class PromisesTest {
         Check.write(x, "4h4");
         due("restore()", x.restore(), 3);
         due("restore is a change; the history stays", x.total(22), 4);
-        totals("restored", x, 8, 3, 3, 0, 0, 0, 0, 0, 0);
-        hopperIs("restored", x, 0, 1, 2);
+        check.totals("restored", x, 8, 3, 3, 0, 0, 0, 0, 0, 0);
+        check.hopperIs("restored", x, 0, 1, 2);
         due("the setting", x.total(1), 12);
         due("the text stays", x.total(23), 3);
         due("the button that came later", x.button(3, 0), ShirtButtons.UNKNOWN);
         due("undo of it", x.undo(), 3);
-        totals("undone", x, 8, 4, 1);
+        check.totals("undone", x, 8, 4, 1);
         due("the snapshot stays", x.restore(), 3);
         x.sort(1);
         due("restore() twice", x.restore(), 3);
-        hopperIs("the snapshot isn't sorted along", x, 0, 1, 2);
+        check.hopperIs("the snapshot isn't sorted along", x, 0, 1, 2);
     }
 
     private static void restoreFewer() {
@@ -591,7 +570,7 @@ public final class PromisesTest {
         due("sorted how often", x.button(0, 9), 0);
         due("its chips", x.button(0, 3), 0);
         due("on its way", x.button(0, 5), 0);
-        hopperIs("come anew", x, 0);
+        check.hopperIs("come anew", x, 0);
     }
 
     private static void button() {
@@ -617,9 +596,9 @@ public final class PromisesTest {
 
     private static void inBin() {
         ShirtButtons x = Check.sorted("1h5s5,1h5s1,1h5s5,1h5s0,1h5s1", "1h11s2");
-        binIs("by shine, then by number", x, 0, 3, 1, 4, 0, 2);
-        binIs("another bin", x, 4, 5);
-        binIs("an empty bin", x, 11);
+        check.binIs("by shine, then by number", x, 0, 3, 1, 4, 0, 2);
+        check.binIs("another bin", x, 4, 5);
+        check.binIs("an empty bin", x, 11);
         due("inBin(12, -1)", x.inBin(12, -1), ShirtButtons.UNKNOWN);
         due("inBin(0, -1)", x.inBin(0, -1), ShirtButtons.OUT_OF_RANGE);
         due("inBin(0, a lot)", x.inBin(0, Integer.MAX_VALUE), ShirtButtons.NONE);
@@ -660,7 +639,7 @@ public final class PromisesTest {
         Check.bring(x, "2h2");
         x.shirt(0, 1);
         Check.write(x, "hallo");
-        totals("all", x, 0, 10, 15, 22, 4, 6, 3, 2, 2, 9, 2, 1, 0, 3, 1, 1, 1, 1, 3, 8, 1, 1, 7, 4, 5);
+        check.totals("all", x, 0, 10, 15, 22, 4, 6, 3, 2, 2, 9, 2, 1, 0, 3, 1, 1, 1, 1, 3, 8, 1, 1, 7, 4, 5);
         due("total(24)", x.total(24), ShirtButtons.OUT_OF_RANGE);
         for (int wild : WILD) {
             due("total(" + wild + ")", x.total(wild), ShirtButtons.OUT_OF_RANGE);
@@ -745,8 +724,8 @@ public final class PromisesTest {
         }
         due("ifMesh(2, 22, 4), as it is", x.ifMesh(2, 22, 4), 1);
         due("ifMesh(2, 23, 4)", x.ifMesh(2, 23, 4), 0);
-        hopperIs("nothing changes", x, 0, 1, 2, 3);
-        totals("nothing changes", x, 18, 0, 0, 0, 5, 1);
+        check.hopperIs("nothing changes", x, 0, 1, 2, 3);
+        check.totals("nothing changes", x, 18, 0, 0, 0, 5, 1);
         due("the mesh", x.total(2), 22);
         due("ifMesh(3, 31, 0)", x.ifMesh(3, 31, 0), ShirtButtons.UNKNOWN);
         due("ifMesh(0, 31, 0)", x.ifMesh(0, 31, 0), ShirtButtons.OUT_OF_RANGE);
