@@ -46,7 +46,8 @@ public final class AgreementTest {
     }
 
     private void go() {
-        while (calledSoFar < CALLS && !check.isWrong()) {
+        // A text is written by two calls at least.
+        while (calledSoFar < CALLS - 1 && !check.isWrong()) {
             if (any(9) == 0) {
                 writeText();
             } else {
@@ -91,7 +92,7 @@ public final class AgreementTest {
         if (any(3) == 0) {
             spoil(text);
         }
-        for (int i = 0; i < text.length(); i++) {
+        for (int i = 0; i < text.length() && calledSoFar < CALLS - 1; i++) {
             due("type(" + (int) text.charAt(i) + ")", machine.type(text.charAt(i)), model.type(text.charAt(i)));
         }
         due("read()", machine.read(), model.read());

@@ -258,9 +258,9 @@ public final class ErrorEdgesTest {
     }
 
     private static void farFromAnyRange() {
-        ShirtButtons x = busy();
-        String before = Twins.state(x);
+        String before = Twins.state(busy());
         for (int wild : WILD) {
+            ShirtButtons x = busy();
             if (wild < 1 || wild > 99) {
                 due("sort(" + wild + ")", x.sort(wild), OUT_OF_RANGE);
             }
@@ -283,15 +283,11 @@ public final class ErrorEdgesTest {
             due("leastSpread(" + wild + ", 1)", x.leastSpread(wild, 1), UNKNOWN);
             due("leastSpread(0, " + wild + ")", x.leastSpread(0, wild), OUT_OF_RANGE);
             due("shirts(" + wild + ")", x.shirts(wild), OUT_OF_RANGE);
+            due("ifMesh(" + wild + ", 9, 0)", x.ifMesh(wild, 9, 0), UNKNOWN);
+            due("ifMesh(0, " + wild + ", 0)", x.ifMesh(0, wild, 0), OUT_OF_RANGE);
+            due("ifMesh(0, 9, " + wild + ")", x.ifMesh(0, 9, wild), OUT_OF_RANGE);
+            check.due("after " + wild + " all is as before", Twins.state(x), before);
         }
-        check.due("all is as before", Twins.state(x), before);
-        ShirtButtons y = busy();
-        for (int wild : WILD) {
-            due("ifMesh(" + wild + ", 9, 0)", y.ifMesh(wild, 9, 0), UNKNOWN);
-            due("ifMesh(0, " + wild + ", 0)", y.ifMesh(0, wild, 0), OUT_OF_RANGE);
-            due("ifMesh(0, 9, " + wild + ")", y.ifMesh(0, 9, wild), OUT_OF_RANGE);
-        }
-        check.due("all is as before", Twins.state(y), before);
     }
 
     private static void emptyMachine() {

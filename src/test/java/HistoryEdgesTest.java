@@ -403,6 +403,16 @@ public final class HistoryEdgesTest {
         for (int what = 0; what < wants.length; what++) {
             due("a button that comes in place of an undone one, " + what, x.button(0, what), wants[what]);
         }
+        x = new ShirtButtons();
+        x.keep();
+        Check.bring(x, "1h10i5c3s1");
+        x.sort(1);
+        x.shirt(0, 1);
+        x.restore();
+        Check.bring(x, "2h8s5");
+        for (int what = 0; what < wants.length; what++) {
+            due("a button that comes in place of a restored one, " + what, x.button(0, what), wants[what]);
+        }
     }
 
     /** "Restores the state of the snapshot ... This is a change." */
@@ -426,11 +436,16 @@ public final class HistoryEdgesTest {
         }
     }
 
-    private static void fullMachines() {
+    private static ShirtButtons fullHopper() {
         ShirtButtons x = Check.withSettings(6, 20);
         Check.bringLike(x, "1h9", 40);
         x.keep();
-        String before = Twins.state(x);
+        return x;
+    }
+
+    private static void fullMachines() {
+        String before = Twins.state(fullHopper());
+        ShirtButtons x = fullHopper();
         x.sort(99);
         due("in the bin", x.bin(0, 0), 20);
         x.pour(0);
@@ -438,6 +453,7 @@ public final class HistoryEdgesTest {
         due("in the bin again", x.bin(0, 0), 20);
         x.undo();
         check.due("40 in the hopper again", Twins.state(x), before);
+        x = fullHopper();
         x.sort(3);
         x.restore();
         check.due("40 in the hopper once more", Twins.state(x), before);

@@ -362,6 +362,15 @@ public final class SortingEdgesTest {
         check.totals("let go", x, 9, 1, 0, 0, 9);
         x.sort(1);
         due("the box doesn't count", x.total(11), 1);
+        x = Check.withSettings(HOLD, 9);
+        Check.bringLike(x, "1h9i9", 40);
+        x.sort(8);
+        due("letGo() of eight of 40", x.letGo(), 8);
+        x.sort(31);
+        check.totals("four more times", x, 9, 1, 0, 4, 35);
+        x.sort(1);
+        due("letGo() of the last of 40", x.letGo(), 5);
+        due("the last of 40 is in the box", x.button(39, 5), IRON_BOX);
     }
 
     private static void pourHowMany() {

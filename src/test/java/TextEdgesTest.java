@@ -311,7 +311,6 @@ public final class TextEdgesTest {
         for (int[] one : cases) {
             ShirtButtons x = new ShirtButtons();
             Check.bringLike(x, "1h9", one[0]);
-            String before = Twins.state(x);
             int states = x.total(22);
             Check.write(x, Check.like("2h9", one[1]));
             due(one[1] + " more than " + one[0], x.read(), one[2]);
@@ -320,7 +319,7 @@ public final class TextEdgesTest {
             due("the length of the text", x.total(23), 4 * one[1] - 1);
             if (one[2] < 0) {
                 due("nothing is recorded", x.total(22), states);
-                check.due("nothing came", Twins.state(x), before);
+                due("no button came", x.button(one[0], 0), UNKNOWN);
             }
         }
         ShirtButtons x = new ShirtButtons();
