@@ -241,7 +241,7 @@ public final class ShirtButtons {
             return OUT_OF_RANGE;
         }
         order.fill(now, bin);
-        return rank < order.count ? order.numbers[rank] : NONE;
+        return order.numberAt(rank);
     }
 
     public int bin(int bin, int what) {
@@ -348,7 +348,7 @@ public final class ShirtButtons {
         if (mesh < 0 || mesh >= MESHES) {
             return UNKNOWN;
         }
-        if (!isValue(mesh, value) || what < 0 || what >= PLACES) {
+        if (!isValue(mesh, value) || !isPlace(what)) {
             return OUT_OF_RANGE;
         }
         if (!now.meshesAllow(mesh, value)) {
@@ -368,6 +368,10 @@ public final class ShirtButtons {
 
     private static boolean isBin(int bin) {
         return bin >= 0 && bin < BINS;
+    }
+
+    private static boolean isPlace(int place) {
+        return place >= 0 && place < PLACES;
     }
 
     private static boolean isWanted(int many) {
@@ -531,12 +535,12 @@ public final class ShirtButtons {
 
         void copyFrom(Buttons other) {
             count = other.count;
-            System.arraycopy(other.holes, 0, holes, 0, count);
-            System.arraycopy(other.size, 0, size, 0, count);
-            System.arraycopy(other.iron, 0, iron, 0, count);
-            System.arraycopy(other.chips, 0, chips, 0, count);
-            System.arraycopy(other.shine, 0, shine, 0, count);
-            System.arraycopy(other.sortings, 0, sortings, 0, count);
+            System.arraycopy(other.holes, 0, holes, 0, MOST_BUTTONS);
+            System.arraycopy(other.size, 0, size, 0, MOST_BUTTONS);
+            System.arraycopy(other.iron, 0, iron, 0, MOST_BUTTONS);
+            System.arraycopy(other.chips, 0, chips, 0, MOST_BUTTONS);
+            System.arraycopy(other.shine, 0, shine, 0, MOST_BUTTONS);
+            System.arraycopy(other.sortings, 0, sortings, 0, MOST_BUTTONS);
         }
     }
 
@@ -549,47 +553,70 @@ public final class ShirtButtons {
         final int[] at = new int[PLACES];
         final int[] inBin = new int[BINS];
 
-        /** To be called only while the hopper isn't empty. */
+        /** Takes the first one out of the hopper, NONE if it is empty. */
         int takeFirst() {
+            if (at[HOPPER] < 1) {
+                return NONE;
+            }
             int first = hopper[0];
             leave(first);
-            System.arraycopy(hopper, 1, hopper, 0, at[HOPPER]);
+            System.arraycopy(hopper, 1, hopper, 0, MOST_BUTTONS - 1);
             return first;
         }
 
         /** To be followed by a call that brings the button to another place. */
         void leave(int button) {
-            at[place[button]]--;
-            if (binOf[button] >= 0) {
+            if (!isNumber(button)) {
+                return;
+            }
+            if (isPlace(place[button])) {
+                at[place[button]]--;
+            }
+            if (isBin(binOf[button])) {
                 inBin[binOf[button]]--;
             }
         }
 
         void bringToHopper(int button) {
-            hopper[at[HOPPER]] = button;
+            int rank = at[HOPPER];
+            if (rank < 0 || rank >= MOST_BUTTONS) {
+                return;
+            }
+            hopper[rank] = button;
             bring(button, HOPPER);
         }
 
         void bringToBin(int button, int bin) {
-            bring(button, IN_BIN);
-            binOf[button] = bin;
-            inBin[bin]++;
+            put(button, IN_BIN, bin, NONE);
         }
 
         void bringToShirt(int button, int number) {
-            bring(button, ON_SHIRT);
-            shirtOf[button] = number;
+            put(button, ON_SHIRT, NONE, number);
         }
 
         void bring(int button, int where) {
+            put(button, where, NONE, NONE);
+        }
+
+        private void put(int button, int where, int bin, int shirt) {
+            if (!isNumber(button) || !isPlace(where)) {
+                return;
+            }
             place[button] = where;
-            binOf[button] = NONE;
-            shirtOf[button] = NONE;
+            binOf[button] = bin;
+            shirtOf[button] = shirt;
             at[where]++;
+            if (isBin(bin)) {
+                inBin[bin]++;
+            }
+        }
+
+        private static boolean isNumber(int button) {
+            return button >= 0 && button < MOST_BUTTONS;
         }
 
         int rankInHopper(int button) {
-            for (int i = 0; i < at[HOPPER]; i++) {
+            for (int i = 0; i < MOST_BUTTONS && i < at[HOPPER]; i++) {
                 if (hopper[i] == button) {
                     return i;
                 }
@@ -597,11 +624,11 @@ public final class ShirtButtons {
             return NONE;
         }
 
-        void copyFrom(Places other, int count) {
-            System.arraycopy(other.place, 0, place, 0, count);
-            System.arraycopy(other.binOf, 0, binOf, 0, count);
-            System.arraycopy(other.shirtOf, 0, shirtOf, 0, count);
-            System.arraycopy(other.hopper, 0, hopper, 0, other.at[HOPPER]);
+        void copyFrom(Places other) {
+            System.arraycopy(other.place, 0, place, 0, MOST_BUTTONS);
+            System.arraycopy(other.binOf, 0, binOf, 0, MOST_BUTTONS);
+            System.arraycopy(other.shirtOf, 0, shirtOf, 0, MOST_BUTTONS);
+            System.arraycopy(other.hopper, 0, hopper, 0, MOST_BUTTONS);
             System.arraycopy(other.at, 0, at, 0, PLACES);
             System.arraycopy(other.inBin, 0, inBin, 0, BINS);
         }
@@ -644,7 +671,11 @@ public final class ShirtButtons {
             if (buttons.size[button] > settings[LAST_MESH]) {
                 return TOO_LARGE;
             }
-            return places.inBin[binFor(button)] < settings[ROOM] ? IN_BIN : HOPPER;
+            return hasRoom(binFor(button)) ? IN_BIN : HOPPER;
+        }
+
+        private boolean hasRoom(int bin) {
+            return isBin(bin) && places.inBin[bin] < settings[ROOM];
         }
 
         private int meshClass(int button) {
@@ -660,10 +691,10 @@ public final class ShirtButtons {
         }
 
         void sortFirst() {
-            if (places.at[HOPPER] < 1) {
+            int button = places.takeFirst();
+            if (!buttons.has(button)) {
                 return;
             }
-            int button = places.takeFirst();
             buttons.sortings[button]++;
             sortingsDone++;
             int where = placeFor(button);
@@ -716,10 +747,12 @@ public final class ShirtButtons {
         int makeShirt(Order order, int from, int many) {
             int worth = 0;
             for (int i = 0; i < many; i++) {
-                int button = order.numbers[from + i];
-                worth += buttons.shine[button] - buttons.chips[button];
-                places.leave(button);
-                places.bringToShirt(button, shirtsMade);
+                int button = order.numberAt(from + i);
+                if (buttons.has(button)) {
+                    worth += buttons.shine[button] - buttons.chips[button];
+                    places.leave(button);
+                    places.bringToShirt(button, shirtsMade);
+                }
             }
             worth = Math.max(worth, 0);
             shirtsMade++;
@@ -739,7 +772,7 @@ public final class ShirtButtons {
 
         void copyFrom(State other) {
             buttons.copyFrom(other.buttons);
-            places.copyFrom(other.places, other.buttons.count);
+            places.copyFrom(other.places);
             System.arraycopy(other.settings, 0, settings, 0, SETTINGS);
             shirtsMade = other.shirtsMade;
             worthMade = other.worthMade;
@@ -751,13 +784,14 @@ public final class ShirtButtons {
 
     /** The buttons of one bin in the order of their shine, made anew for each call that asks for it. */
     private static final class Order {
-        final int[] numbers = new int[MOST_BUTTONS];
+        private final int[] numbers = new int[MOST_BUTTONS];
         private final int[] shine = new int[MOST_BUTTONS];
         int count = 0;
 
         void fill(State state, int bin) {
             count = 0;
-            for (int i = 0; i < state.buttons.count; i++) {
+            // No button is twice in it, so that the rows have room for all.
+            for (int i = 0; i < MOST_BUTTONS && i < state.buttons.count; i++) {
                 if (state.places.binOf[i] == bin) {
                     insert(i, state.buttons.shine[i]);
                 }
@@ -775,6 +809,11 @@ public final class ShirtButtons {
             numbers[rank] = number;
             shine[rank] = itsShine;
             count++;
+        }
+
+        /** The number at a rank, NONE behind the last one. */
+        int numberAt(int rank) {
+            return rank >= 0 && rank < count ? numbers[rank] : NONE;
         }
 
         private int spreadFrom(int rank, int many) {
@@ -812,13 +851,11 @@ public final class ShirtButtons {
         /** A button that no shirt can begin with now can't later: what is behind it only gets less like it. */
         int groups(int many, int spread) {
             int made = 0;
-            int rank = 0;
-            while (rank + many <= count) {
-                if (spreadFrom(rank, many) <= spread) {
+            int free = 0;
+            for (int rank = 0; rank + many <= count; rank++) {
+                if (rank >= free && spreadFrom(rank, many) <= spread) {
                     made++;
-                    rank += many;
-                } else {
-                    rank++;
+                    free = rank + many;
                 }
             }
             return made;
